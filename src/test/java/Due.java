@@ -1,5 +1,7 @@
 /** What the tests share: an answer beside the one that is due, and texts for THE TAPE. */
 abstract class Due {
+    static final int[] WILD = {Integer.MIN_VALUE, Integer.MIN_VALUE + 1, -1000, -1, 1000, Integer.MAX_VALUE - 5, Integer.MAX_VALUE};
+
     private static int asked = 0, wrong = 0;
 
     static void due(String call, long got, long want) {
@@ -52,6 +54,4 @@ abstract class Due {
             due(call + " count(" + what + ")", w.count(what), counts[what]);
         }
     }
-
-    static final int[] WILD = {Integer.MIN_VALUE, Integer.MIN_VALUE + 1, -1000, -1, 1000, Integer.MAX_VALUE - 5, Integer.MAX_VALUE};
 }

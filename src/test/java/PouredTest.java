@@ -83,6 +83,25 @@ public final class PouredTest extends Due {
         w.run(3);
         duePouring(w, "19 the time of his filling of more than 0", 0, 0, 0, 3, 10, 0, 3);
         due("19 only pourings of more than 0", w.count(6), 2);
+        fillingOfOne();
+    }
+
+    private static void fillingOfOne() {
+        WaterMen w = new WaterMen();
+        w.fountain(20);
+        w.fountain(1);
+        w.jar(0, 100, 1, 1, 0, 0);
+        w.man(0, 11, 0, 0);
+        w.open(1, false);
+        w.run(1);
+        w.moves(0, 1, 0);
+        w.drought(0);
+        w.open(1, true);
+        w.run(1);
+        dueMan(w, "19 nothing to fill", 0, 0, 0, 10, 0);
+        w.drought(100);
+        w.run(2);
+        duePouring(w, "19 a filling of 1 is the latest", 0, 0, 0, 11, 3, 1, 2);
     }
 
     private static void promise20() {
@@ -248,6 +267,7 @@ public final class PouredTest extends Due {
         for (int m = 0; m < 10; m++) six.man(0, 5, 0, 0);
         due("21 six, the last ones", six.give(4, 2, 6), 6 * 64);
         dueGiven(six, "21 six", -4, -4, -4, -4, 2, 3, 4, 5, 6, 7);
+        due("21 seven, though they are there", six.give(0, 0, 7), -1);
         due("21 beyond", six.give(5, 2, 6), -1);
         due("21 beyond", six.give(4, 3, 6), -1);
     }
