@@ -165,12 +165,12 @@ public final class WaterMen {
         if (what == 0 || what == 2) {
             Fountain f = fountainAt(which);
             if (f == null) return BAD;
-            return what == 0 ? f.holds : f.ranOff;
+            return what == 0 ? f.has : f.ranOff;
         }
         if (what == 1 || what == 3) {
             Jar j = jarAt(which);
             if (j == null) return BAD;
-            return what == 1 ? j.filled : j.drunk;
+            return what == 1 ? j.has : j.drunk;
         }
         return BAD;
     }
@@ -291,8 +291,8 @@ public final class WaterMen {
     private void letFlow(Fountain f) {
         if (!f.isOpen) return;
         int flowed = f.flow * hundredths / 100;
-        int over = Math.max(0, f.holds + flowed - MOST_FOUNTAIN_WATER);
-        f.holds += flowed - over;
+        int over = Math.max(0, f.has + flowed - MOST_FOUNTAIN_WATER);
+        f.has += flowed - over;
         f.ranOff += over;
         sums[FLOWED] += flowed;
         sums[RAN_OFF] += over;
@@ -301,8 +301,8 @@ public final class WaterMen {
     private void fillNext(Fountain f) {
         Man m = f.isOpen ? f.nextToFill() : null;
         if (m == null) return;
-        int measures = Math.min(MOST_FILLED_A_MINUTE, Math.min(f.holds, m.load - m.carries));
-        f.holds -= measures;
+        int measures = Math.min(MOST_FILLED_A_MINUTE, Math.min(f.has, m.load - m.carries));
+        f.has -= measures;
         m.carries += measures;
         sums[FILLED] += measures;
         if (measures > 0) {
@@ -331,10 +331,10 @@ public final class WaterMen {
 
     private void pour(Man m) {
         Jar j = m.jar;
-        int measures = Math.min(m.carries, j.holds - j.filled);
+        int measures = Math.min(m.carries, j.holds - j.has);
         if (measures <= 0) return;
         int earned = measures * prices.priceOf(j.floor);
-        j.filled += measures;
+        j.has += measures;
         m.carries -= measures;
         m.earned += earned;
         sums[POURED] += measures;
@@ -347,7 +347,7 @@ public final class WaterMen {
         final int flow;
         final ArrayList<Man> row = new ArrayList<>();
         boolean isOpen = true;
-        int holds = 0;
+        int has = 0;
         int ranOff = 0;
 
         Fountain(int number, int flow) {
@@ -381,7 +381,7 @@ public final class WaterMen {
         final int floor;
         final int holds;
         private final int[] minutes;
-        int filled = 0;
+        int has = 0;
         int thirst = 0;
         int drunk = 0;
 
@@ -398,8 +398,8 @@ public final class WaterMen {
         }
 
         int drinkOnce() {
-            int measures = Math.min(thirst, filled);
-            filled -= measures;
+            int measures = Math.min(thirst, has);
+            has -= measures;
             drunk += measures;
             return measures;
         }
