@@ -11,6 +11,14 @@ abstract class Due {
         if (wrong <= 40) System.out.println(call + " answered " + got + ", due is " + want);
     }
 
+    static int asked() {
+        return asked;
+    }
+
+    static int wrong() {
+        return wrong;
+    }
+
     static void end() {
         System.out.println(asked + " answers, " + wrong + " not as due");
         if (wrong != 0 || asked == 0) System.exit(1);
