@@ -14,6 +14,7 @@ public final class CityEdgesTest extends Edges {
 
     private static void ofANewObject() {
         sentence("1 Nothing is there", CityEdgesTest::nothingIsThere);
+        sentence("1 Nothing is there (of another object either)", CityEdgesTest::nothingOfAnother);
         sentence("1 no DROUGHT (p 100)", CityEdgesTest::noDroughtAtFirst);
     }
 
@@ -32,6 +33,23 @@ public final class CityEdgesTest extends Edges {
         due("foul(0)", w.foul(0, 0), -1);
         due("poured(0)", w.poured(0, 0), -4);
         due("the tape has no byte", w.fares(), -20);
+    }
+
+    private static void nothingOfAnother() {
+        WaterMen other = cityOfLoads(1, 5, 5);
+        other.drought(7);
+        other.give(0, 0, 1);
+        typeText(other, "0:5");
+        other.run(2);
+        nothingIsThere();
+        WaterMen w = new WaterMen();
+        due("its own drought", w.drought(100), 100);
+        due("its own tape", typeText(w, "0:7"), 3);
+        due("the other's tape", other.fares(), 1);
+        due("the other's price", other.fare(0), 5);
+        due("its own first price", w.fare(0), 1);
+        due("its own clauses", w.fares(), 1);
+        due("its own price", w.fare(0), 7);
     }
 
     private static void noDroughtAtFirst() {

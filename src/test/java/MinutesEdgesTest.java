@@ -145,15 +145,19 @@ public final class MinutesEdgesTest extends Edges {
         dueMan(w, "one is wanting", 0, 0, 0, 10);
         w.run(1);
         dueMan(w, "full", 0, 1, 9, 11);
-        // JAR 0 takes 1 measure of the first round, none of the second: he is back with all, at a dry FOUNTAIN.
-        w = city(10, 0, 1, 1);
-        w.man(0, 10, 0, 0);
-        w.run(6);
-        dueMan(w, "back with all", 0, 0, 0, 10);
+        // MAN 1 comes to a full JAR and back with all; MAN 0, who has nothing, would be ahead of him but for his RIGHT.
+        w = city(1, 0, 1, 1);
+        w.man(0, 1, 0, 0);
+        w.man(0, 1, 0, 0);
+        w.run(2);
         w.drought(0);
+        w.right(1, 1);
+        w.run(2);
+        dueMan(w, "back with all", 1, 0, 0, 1);
+        due("to a dry fountain", w.water(0, 0), 0);
         w.run(1);
-        dueMan(w, "full, he need not fill", 0, 1, 1, 10);
-        due("nor did he", w.sum(2), 11);
+        dueMan(w, "full, he need not fill", 1, 1, 1, 1);
+        due("nor did he", w.sum(2), 2);
     }
 
     private static void shutNobodyFills() {

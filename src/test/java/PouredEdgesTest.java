@@ -366,6 +366,7 @@ public final class PouredEdgesTest extends Edges {
         w.jar(5, 5, 1, 1, 0, 0);
         w.give(0, 0, 2);
         dueGiven(w, "two", 0, 1);
+        due("he belongs to the jar that he did", w.told(1, 5), 0);
         due("no such", w.give(1, 2, 1), -4);
         dueGiven(w, "no such: as it was", 0, 1);
         due("not there", w.give(1, 3, 1), -1);
