@@ -22,12 +22,19 @@ public final class FaceTest extends Due {
     private static final String[] WORDS_RULED_OUT = {
         "throw", "throws", "try", "catch", "synchronized", "assert", "native", "volatile", "transient", "hashCode", "toString",
         "Object", "System.out", "Random", "Thread", "HashMap", "Exact"};
+    private static final String[] LIBRARY = {
+        "Math.min", "Math.max", "Math.abs", "Math.floorMod", "Math.floorDiv", "Integer.bitCount", "Integer.compare",
+        "Long.compare", "Arrays.fill", "Arrays.copyOf", "Arrays.copyOfRange", "System.arraycopy"};
+    private static final int MOST_PARAMETERS = 7, MOST_LINES = 60;
 
     public static void main(String[] args) throws Exception {
         constants();
         members();
         innerClasses();
+        parameters();
         source();
+        library();
+        lengths();
         end();
     }
 
@@ -43,14 +50,19 @@ public final class FaceTest extends Due {
         due(what, is ? 1 : 0, 1);
     }
 
+    private static Set<String> publicNames() {
+        Set<String> names = new TreeSet<>();
+        for (String method : METHODS) names.add(method.replaceAll(".* (\\w+)\\(.*", "$1"));
+        return names;
+    }
+
     private static void members() {
         int kind = WaterMen.class.getModifiers();
         dueTrue("the class is public and final", Modifier.isPublic(kind) && Modifier.isFinal(kind));
         Constructor<?>[] constructors = WaterMen.class.getDeclaredConstructors();
         dueTrue("one public constructor", constructors.length == 1 && Modifier.isPublic(constructors[0].getModifiers()));
         Set<String> due = new TreeSet<>(Arrays.asList(METHODS));
-        Set<String> publicNames = new TreeSet<>();
-        for (String method : METHODS) publicNames.add(method.replaceAll(".* (\\w+)\\(.*", "$1"));
+        Set<String> publicNames = publicNames();
         for (Method m : WaterMen.class.getDeclaredMethods()) {
             if (Modifier.isPrivate(m.getModifiers())) {
                 dueTrue("private " + m.getName() + " has its own name", !publicNames.contains(m.getName()));
@@ -83,9 +95,45 @@ public final class FaceTest extends Due {
         }
     }
 
-    private static void source() throws Exception {
+    private static void parameters() {
+        Set<String> publicNames = publicNames();
+        for (Class<?> c : WaterMen.class.getDeclaredClasses()) {
+            for (Method m : c.getDeclaredMethods()) {
+                dueTrue(m + " has its own name", !publicNames.contains(m.getName()));
+                dueTrue(m + " takes at most seven", m.getParameterCount() <= MOST_PARAMETERS);
+            }
+            for (Constructor<?> made : c.getDeclaredConstructors()) {
+                dueTrue(made + " takes at most seven", made.getParameterCount() <= MOST_PARAMETERS);
+            }
+        }
+        for (Method m : WaterMen.class.getDeclaredMethods()) {
+            dueTrue(m + " takes at most seven", m.getParameterCount() <= MOST_PARAMETERS);
+        }
+    }
+
+    private static String codeWithoutComments() throws Exception {
         String text = Files.readString(Path.of("src/main/java/WaterMen.java"));
-        String code = text.replaceAll("(?s)/\\*.*?\\*/", "").replaceAll("//[^\n]*", "");
+        return text.replaceAll("(?s)/\\*.*?\\*/", "").replaceAll("//[^\n]*", "");
+    }
+
+    private static void library() throws Exception {
+        Matcher call = Pattern.compile("\\b(Math|Integer|Long|Arrays|System|String|Character|Boolean)\\.\\w+").matcher(codeWithoutComments());
+        while (call.find()) dueTrue("the library has " + call.group(), Arrays.asList(LIBRARY).contains(call.group()));
+    }
+
+    /** A method's body is what stands between its first line and the brace that is set in as far as it. */
+    private static void lengths() throws Exception {
+        Matcher method = Pattern.compile("(?m)^( {4,8})(?! )([^\n=;]*\\([^\n;]*\\)) \\{\n(?s:(.*?))\n\\1\\}$").matcher(codeWithoutComments());
+        int found = 0;
+        while (method.find()) {
+            found++;
+            dueTrue(method.group(2) + " is short", method.group(3).split("\n").length <= MOST_LINES);
+        }
+        dueTrue("methods were found", found > METHODS.length);
+    }
+
+    private static void source() throws Exception {
+        String code = codeWithoutComments();
         for (String word : WORDS_RULED_OUT) {
             dueTrue("no " + word, !Pattern.compile("\\b" + Pattern.quote(word) + "\\b").matcher(code).find());
         }
